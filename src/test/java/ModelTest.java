@@ -1,11 +1,12 @@
 /**
- * Long runs of calls, the same in each run of the test, on the program and on the model: every answer
- * must be the same, and all that can be asked of each feeder behind each call, thrown or not.
+ * Runs of 512 calls, the same in each run of the test, on the program and on the model: every answer must
+ * be the same. Some calls are followed by all that can be asked of the office, thrown or not.
  */
 public final class ModelTest {
-    private static final int OFFICES = 240;
+    private static final int OFFICES = 3000;
     private static final int CALLS = 512;
-    private static final int[] ODD = {Integer.MIN_VALUE, -1000, -1, 0, 12, 13, 101, 1000, 20001, Integer.MAX_VALUE};
+    private static final int[] ODD = {Integer.MIN_VALUE, -1000, -1, 0, 4, 12, 13, 100, 101, 999, 1000, 20000, 20001,
+        Integer.MAX_VALUE};
     private static final Calls[] ALL = Calls.values();
     private static final Calls[] PLAIN = {Calls.HOUR, Calls.FEEDERS, Calls.LOAD, Calls.SPREAD, Calls.MOST_CUT,
         Calls.LOAD_RESTORED};
@@ -14,9 +15,25 @@ public final class ModelTest {
     private static final Due DUE = new Due("ModelTest");
     private static long seed = 20260719L;
 
+    private final int run;
+    private final int mostLoad;
+    private final int mostHours;
+    private final int feeders;
+    private final Shedwheel office = new Shedwheel();
+    private final Model model = new Model();
+    private int calls = 0;
+
+    /** Small loads and short times make ties, great ones make sums that are far apart. */
+    private ModelTest(int run) {
+        this.run = run;
+        mostLoad = new int[] {3, 12, 60, 999}[run % 4];
+        mostHours = new int[] {1, 3, 12, 100}[run / 4 % 4];
+        feeders = 1 + next(12);
+    }
+
     public static void main(String[] args) {
         for (int run = 0; run < OFFICES; run++) {
-            holdOneOffice(run);
+            new ModelTest(run).holdOneOffice();
         }
         DUE.end();
     }
@@ -27,20 +44,15 @@ public final class ModelTest {
         return (int) ((seed >>> 33) % bound);
     }
 
-    private static void holdOneOffice(int run) {
-        Shedwheel office = new Shedwheel();
-        Model model = new Model();
-        // Small loads and short times make ties, great ones make sums that are far apart.
-        int mostLoad = new int[] {3, 12, 60, 999}[run % 4];
-        int mostHours = new int[] {1, 3, 12, 100}[run / 4 % 4];
-        int feeders = 1 + next(12);
-        for (int call = 0; call < CALLS; call++) {
-            Calls one = call < feeders ? Calls.FEEDER : nextCall();
-            int a = next(20) == 0 ? ODD[next(ODD.length)] : nextNumber(one, mostLoad, mostHours, feeders);
-            int b = next(20) == 0 ? ODD[next(ODD.length)] : one == Calls.FEEDER ? next(4) : 1 + next(mostLoad);
-            boolean flag = next(5) == 0;
-            hold(run + "." + call, office, model, one, a, b, flag);
-            holdAll(run + "." + call + " behind " + one, office, model);
+    private void holdOneOffice() {
+        while (calls < CALLS) {
+            Calls call = calls < feeders ? Calls.FEEDER : nextCall();
+            int a = next(20) == 0 ? ODD[next(ODD.length)] : nextNumber(call);
+            int b = next(20) == 0 ? ODD[next(ODD.length)] : call == Calls.FEEDER ? next(4) : 1 + next(mostLoad);
+            boolean thrown = hold(call, a, b, next(5) == 0).startsWith("throws");
+            if (next(thrown ? 4 : 30) == 0) {
+                holdAll();
+            }
         }
     }
 
@@ -53,7 +65,7 @@ public final class ModelTest {
         return kind < 4 ? Calls.RESTORE : kind < 5 ? Calls.ROTATE : ALL[next(ALL.length)];
     }
 
-    private static int nextNumber(Calls call, int mostLoad, int mostHours, int feeders) {
+    private int nextNumber(Calls call) {
         switch (call) {
             case FEEDER: return 1 + next(mostLoad);
             case SET_SLACK: return next(mostLoad + 1);
@@ -66,26 +78,29 @@ public final class ModelTest {
         }
     }
 
-    private static void hold(String at, Shedwheel office, Model model, Calls call, int a, int b, boolean flag) {
-        DUE.same(at + " " + call + "(" + a + ", " + b + ", " + flag + ")", call.answer(office, a, b, flag),
-                model.answer(call, a, b, flag));
+    /** Makes the call, unless the object has had its 512, and returns what is due. */
+    private String hold(Calls call, int a, int b, boolean flag) {
+        if (calls >= CALLS) {
+            return "";
+        }
+        calls++;
+        String want = model.answer(call, a, b, flag);
+        DUE.same("office " + run + ", call " + calls + ", " + call + "(" + a + ", " + b + ", " + flag + ")",
+                call.answer(office, a, b, flag), want);
+        return want;
     }
 
-    private static void holdAll(String at, Shedwheel office, Model model) {
+    private void holdAll() {
         for (Calls call : PLAIN) {
-            hold(at, office, model, call, 0, 0, false);
+            hold(call, 0, 0, false);
         }
-        for (int k = 0; k < office.feeders(); k++) {
+        for (int k = 0; k < feeders; k++) {
             for (Calls call : OF_A_FEEDER) {
-                hold(at, office, model, call, k, 0, false);
+                hold(call, k, 0, false);
             }
         }
-        int shortfall = 1 + next(1 + Math.min(19999, office.load()));
-        String choice = Calls.CHOICE.answer(office, shortfall, 0, false);
-        hold(at, office, model, Calls.CHOICE, shortfall, 0, false);
-        String listed = Calls.CHOICE_BY_LISTING.answer(office, shortfall, 0, false);
-        if (!listed.startsWith("throws")) {
-            DUE.same(at + " choiceByListing(" + shortfall + ")", listed, choice);
-        }
+        int shortfall = 1 + next(mostLoad * feeders);
+        hold(Calls.CHOICE, shortfall, 0, false);
+        hold(Calls.CHOICE_BY_LISTING, shortfall, 0, false);
     }
 }

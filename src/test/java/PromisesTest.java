@@ -225,19 +225,19 @@ public final class PromisesTest {
     }
 
     private static void promise8Shortfall() {
-        Shedwheel office = officeOf(15, 18, 17);
+        Shedwheel office = officeOf(15, 15, 16, 17);
         office.cut(0);
         office.pass(1);
-        // Feeder 0 would come back with 16 (16.5, rounded down), and so 17 takes least.
+        // Feeder 0 would come back with 16: 16.5, rounded down.
         DUE.same("8 rotate() for 16", office.rotate(), 1);
-        DUE.same("8 17 is cut for it", office.isCut(2), true);
+        DUE.same("8 15 is not enough", office.isCut(1), false);
+        DUE.same("8 16 is", office.isCut(2), true);
+        DUE.same("8 more than 16 is not wanted", office.isCut(3), false);
         office.pass(1);
-        // Feeder 2 would come back with 18 (18.7): feeder 1 meets it, feeder 0 takes 15.
-        DUE.same("8 rotate() for 18", office.rotate(), 1);
-        DUE.same("8 18 is cut for it", office.isCut(1), true);
-        DUE.same("8 15 is on", office.isCut(0), false);
-        // Restored after this one, feeder 2 is cold and would do for 18 as well: it was not to be had.
-        DUE.same("8 the restored one is on", office.takes(2), 18);
+        // Feeder 2 would come back with 17: 17.6, rounded down.
+        DUE.same("8 rotate() for 17", office.rotate(), 1);
+        DUE.same("8 17 is cut for it", office.isCut(3), true);
+        DUE.same("8 with nothing else", office.load(), 15 + 15 + 17);
     }
 
     private static void promise8Refused() {
@@ -480,21 +480,18 @@ public final class PromisesTest {
     }
 
     private static void promise20ChoiceNear() {
-        Shedwheel office = officeOf(10, 12, 14, 20);
+        Shedwheel office = officeOf(10, 14, 12, 20);
         giveHours(office, 0, 6);
         giveHours(office, 1, 3);
         giveHours(office, 2, 3);
         office.setSlack(4);
-        bothChoices("least hours, then least taken", office, 10, 2);
-        bothChoices("12 is no longer enough", office, 13, 4);
-        bothChoices("none is near but a pair", office, 21, 3);
-        bothChoices("more hours and near, not fewer and far", office, 7, 1);
+        bothChoices("least hours, then least taken", office, 10, 4);
+        bothChoices("12 is no longer enough", office, 13, 2);
+        bothChoices("more hours and near, not fewer and far", office, 6, 1);
+        giveHours(office, 2, 1);
+        bothChoices("14 has fewer hours and is near just so", office, 10, 2);
         office.setSlack(3);
-        bothChoices("14 is one too much", office, 10, 2);
-        giveHours(office, 1, 1);
-        bothChoices("14 would have fewer hours", office, 10, 2);
-        office.setSlack(4);
-        bothChoices("14 is near just so", office, 10, 4);
+        bothChoices("14 is one too much", office, 10, 4);
         Shedwheel even = officeOf(6, 6, 6, 12);
         bothChoices("least as a number", even, 12, 3);
         giveHours(even, 0, 1);
