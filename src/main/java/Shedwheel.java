@@ -272,7 +272,7 @@ public final class Shedwheel {
         return sum;
     }
 
-    /** Cuts the set and restores those cut ahead of it: one round is enough, as the set holds only feeders that are on. */
+    /** Cuts the set and restores those cut ahead of it. One round is enough, as the set was on then. */
     private int swapFor(int set) {
         int restored = 0;
         for (int k = 0; k < told.size(); k++) {
