@@ -6,6 +6,7 @@ import java.lang.reflect.Modifier;
 import java.nio.file.Files;
 import java.nio.file.Path;
 import java.util.Arrays;
+import java.util.List;
 import java.util.Set;
 import java.util.TreeSet;
 
@@ -47,6 +48,7 @@ public final class FaceTest {
     public static void main(String[] args) throws IOException {
         holdMembers();
         holdNames();
+        holdSizes();
         holdText();
         DUE.end();
     }
@@ -94,11 +96,33 @@ public final class FaceTest {
         DUE.same(method + " bears a public name", taken, false);
     }
 
+    /** Rules 5 and 11: static fields are final; few parameters, few classes, few fields. */
+    private static void holdSizes() {
+        DUE.same("twelve classes at most", Shedwheel.class.getDeclaredClasses().length < 12, true);
+        holdSizesOf(Shedwheel.class);
+        Arrays.stream(Shedwheel.class.getDeclaredClasses()).forEach(FaceTest::holdSizesOf);
+    }
+
+    private static void holdSizesOf(Class<?> one) {
+        long fields = 0;
+        for (Field field : one.getDeclaredFields()) {
+            boolean fixed = Modifier.isStatic(field.getModifiers());
+            DUE.same(field + " is not static or final", !fixed || Modifier.isFinal(field.getModifiers()), true);
+            fields += fixed ? 0 : 1;
+        }
+        DUE.same(one + " has twenty fields at most", fields <= 20, true);
+        for (Method method : one.getDeclaredMethods()) {
+            DUE.same(method + " has seven parameters at most", method.getParameterCount() <= 7, true);
+        }
+    }
+
     private static void holdText() throws IOException {
         String text = Files.readString(Path.of("src/main/java/Shedwheel.java"));
         for (String word : RULED_OUT) {
             DUE.same("the text holds '" + word + "'", text.contains(word), false);
         }
+        DUE.same("the imports", text.lines().filter(line -> line.startsWith("import")).toList(),
+                List.of("import java.util.ArrayList;", "import java.util.NoSuchElementException;"));
         DUE.same("the text is plain", text.chars().allMatch(sign -> sign < 128), true);
     }
 }

@@ -42,23 +42,6 @@ public final class PromisesTest {
         DUE.end();
     }
 
-    /** An office whose feeders have these loads, none critical, of stage 0. */
-    private static Shedwheel officeOf(int... loads) {
-        Shedwheel office = new Shedwheel();
-        for (int load : loads) {
-            office.feeder(load, false, 0);
-        }
-        return office;
-    }
-
-    /** Cuts a feeder for some hours and lets it become warm again. */
-    private static void giveHours(Shedwheel office, int feeder, int hours) {
-        office.cut(feeder);
-        office.pass(hours);
-        office.restore(feeder);
-        office.pass(5);
-    }
-
     private static void promise1NewObject() {
         Shedwheel office = new Shedwheel();
         DUE.same("1 hour()", office.hour(), 0);
@@ -100,7 +83,7 @@ public final class PromisesTest {
     }
 
     private static void promise3SetLoad() {
-        Shedwheel office = officeOf(50, 60);
+        Shedwheel office = Offices.of(50, 60);
         DUE.same("3 setLoad(0, 1)", office.setLoad(0, 1), 50);
         DUE.same("3 setLoad(0, 999)", office.setLoad(0, 999), 1);
         DUE.same("3 takes(0)", office.takes(0), 999);
@@ -120,7 +103,7 @@ public final class PromisesTest {
     }
 
     private static void promise4SetCritical() {
-        Shedwheel office = officeOf(50, 60);
+        Shedwheel office = Offices.of(50, 60);
         DUE.same("4 was not", office.setCritical(0, true), false);
         DUE.same("4 was", office.setCritical(0, true), true);
         DUE.same("4 kept from the choice", office.choice(10), 2);
@@ -138,8 +121,8 @@ public final class PromisesTest {
     }
 
     private static void promise5SetSlack() {
-        Shedwheel office = officeOf(10, 12);
-        giveHours(office, 0, 1);
+        Shedwheel office = Offices.of(10, 12);
+        Offices.giveHours(office, 0, 1);
         DUE.same("5 without slack", office.choice(9), 1);
         DUE.same("5 setSlack(3)", office.setSlack(3), 0);
         DUE.same("5 with slack", office.choice(9), 2);
@@ -153,7 +136,7 @@ public final class PromisesTest {
     }
 
     private static void promise6Pass() {
-        Shedwheel office = officeOf(100, 100);
+        Shedwheel office = Offices.of(100, 100);
         office.cut(0);
         DUE.same("6 pass(1)", office.pass(1), 1);
         DUE.same("6 pass(100)", office.pass(100), 101);
@@ -166,7 +149,7 @@ public final class PromisesTest {
     }
 
     private static void promise7Relieve() {
-        Shedwheel office = officeOf(50, 30, 20, 90);
+        Shedwheel office = Offices.of(50, 30, 20, 90);
         office.setCritical(3, true);
         DUE.refused(office, "7 relieve(0)", ARGUMENT, () -> office.relieve(0));
         DUE.refused(office, "7 relieve(-1)", ARGUMENT, () -> office.relieve(-1));
@@ -185,14 +168,14 @@ public final class PromisesTest {
     }
 
     private static void promise7OutOfAll() {
-        Shedwheel office = officeOf(999, 999, 999, 999, 999, 999, 999, 999, 999, 999, 999, 999);
+        Shedwheel office = Offices.of(999, 999, 999, 999, 999, 999, 999, 999, 999, 999, 999, 999);
         office.pass(1);
         DUE.refused(office, "7 of twelve, too much", ELEMENT, () -> office.relieve(11989));
         DUE.same("7 of twelve, three", office.relieve(2998), 3996);
         DUE.same("7 of twelve, the lowest number", office.choice(1), 16);
         DUE.same("7 of twelve, the rest", office.relieve(7992), 7992);
         DUE.same("7 nothing is on", office.load(), 0);
-        Shedwheel coldOne = officeOf(10, 15);
+        Shedwheel coldOne = Offices.of(10, 15);
         coldOne.cut(0);
         coldOne.pass(10);
         coldOne.restore(0);
@@ -201,7 +184,7 @@ public final class PromisesTest {
     }
 
     private static void promise8Rotate() {
-        Shedwheel office = officeOf(10, 10, 10);
+        Shedwheel office = Offices.of(10, 10, 10);
         DUE.same("8 relieve(15)", office.relieve(15), 20);
         office.cut(2);
         office.restore(1);
@@ -225,7 +208,7 @@ public final class PromisesTest {
     }
 
     private static void promise8Shortfall() {
-        Shedwheel office = officeOf(15, 15, 16, 17);
+        Shedwheel office = Offices.of(15, 15, 16, 17);
         office.cut(0);
         office.pass(1);
         // Feeder 0 would come back with 16: 16.5, rounded down.
@@ -241,7 +224,7 @@ public final class PromisesTest {
     }
 
     private static void promise8Refused() {
-        Shedwheel office = officeOf(10, 20);
+        Shedwheel office = Offices.of(10, 20);
         DUE.refused(office, "8 none is cut", STATE, () -> office.rotate());
         office.cut(0);
         office.setCritical(0, true);
@@ -259,13 +242,13 @@ public final class PromisesTest {
     }
 
     private static void promise8NearAndBeyond20000() {
-        Shedwheel office = officeOf(10, 11, 14);
-        giveHours(office, 1, 1);
+        Shedwheel office = Offices.of(10, 11, 14);
+        Offices.giveHours(office, 1, 1);
         office.cut(0);
         office.setSlack(4);
         DUE.same("8 rotate() with slack", office.rotate(), 1);
         DUE.same("8 the near one with least hours", office.isCut(2), true);
-        Shedwheel big = officeOf(999, 999, 999, 999, 999, 999, 999, 999, 999, 999, 999);
+        Shedwheel big = Offices.of(999, 999, 999, 999, 999, 999, 999, 999, 999, 999, 999);
         big.trip(3);
         for (int k = 0; k < 11; k++) {
             big.cut(k);
@@ -304,7 +287,7 @@ public final class PromisesTest {
     }
 
     private static void promise10Restore() {
-        Shedwheel office = officeOf(15, 20);
+        Shedwheel office = Offices.of(15, 20);
         DUE.refused(office, "10 it is on", STATE, () -> office.restore(0));
         DUE.refused(office, "10 restore(2)", INDEX, () -> office.restore(2));
         DUE.refused(office, "10 restore(-1)", INDEX, () -> office.restore(-1));
@@ -322,7 +305,7 @@ public final class PromisesTest {
     }
 
     private static void promise11Cut() {
-        Shedwheel office = officeOf(15, 20);
+        Shedwheel office = Offices.of(15, 20);
         office.setCritical(1, true);
         DUE.refused(office, "11 cut(2)", INDEX, () -> office.cut(2));
         DUE.refused(office, "11 cut(-1)", INDEX, () -> office.cut(-1));
@@ -350,7 +333,7 @@ public final class PromisesTest {
     }
 
     private static void promise14IsCut() {
-        Shedwheel office = officeOf(5, 6);
+        Shedwheel office = Offices.of(5, 6);
         DUE.refused(office, "14 isCut(2)", INDEX, () -> office.isCut(2));
         DUE.refused(office, "14 isCut(-1)", INDEX, () -> office.isCut(-1));
         DUE.refused(office, "14 isCut(the least)", INDEX, () -> office.isCut(Integer.MIN_VALUE));
@@ -362,7 +345,7 @@ public final class PromisesTest {
     }
 
     private static void promise15Takes() {
-        Shedwheel office = officeOf(999, 7);
+        Shedwheel office = Offices.of(999, 7);
         DUE.refused(office, "15 takes(2)", INDEX, () -> office.takes(2));
         DUE.refused(office, "15 takes(-1)", INDEX, () -> office.takes(-1));
         office.cut(0);
@@ -381,7 +364,7 @@ public final class PromisesTest {
     }
 
     private static void promise16Cold() {
-        Shedwheel office = officeOf(100);
+        Shedwheel office = Offices.of(100);
         DUE.refused(office, "16 cold(1)", INDEX, () -> office.cold(1));
         DUE.refused(office, "16 cold(-1)", INDEX, () -> office.cold(-1));
         int[] gained = {0, 10, 20, 30, 40, 50, 60, 70, 80, 90, 100, 100, 100};
@@ -420,7 +403,7 @@ public final class PromisesTest {
     }
 
     private static void promise17Hours() {
-        Shedwheel office = officeOf(5, 6);
+        Shedwheel office = Offices.of(5, 6);
         DUE.refused(office, "17 hours(2)", INDEX, () -> office.hours(2));
         DUE.refused(office, "17 hours(-1)", INDEX, () -> office.hours(-1));
         office.pass(4);
@@ -439,7 +422,7 @@ public final class PromisesTest {
     }
 
     private static void promise18Load() {
-        Shedwheel office = officeOf(15, 25, 35);
+        Shedwheel office = Offices.of(15, 25, 35);
         office.setCritical(2, true);
         DUE.same("18 all on", office.load(), 75);
         office.cut(0);
@@ -452,7 +435,7 @@ public final class PromisesTest {
     }
 
     private static void promise19Spread() {
-        Shedwheel office = officeOf(5, 6);
+        Shedwheel office = Offices.of(5, 6);
         DUE.same("19 even", office.spread(), 0);
         office.cut(0);
         office.pass(9);
@@ -480,42 +463,42 @@ public final class PromisesTest {
     }
 
     private static void promise20ChoiceNear() {
-        Shedwheel office = officeOf(10, 14, 12, 20);
-        giveHours(office, 0, 6);
-        giveHours(office, 1, 3);
-        giveHours(office, 2, 3);
+        Shedwheel office = Offices.of(10, 14, 12, 20);
+        Offices.giveHours(office, 0, 6);
+        Offices.giveHours(office, 1, 3);
+        Offices.giveHours(office, 2, 3);
         office.setSlack(4);
         bothChoices("least hours, then least taken", office, 10, 4);
         bothChoices("12 is no longer enough", office, 13, 2);
         bothChoices("more hours and near, not fewer and far", office, 6, 1);
-        giveHours(office, 2, 1);
+        Offices.giveHours(office, 2, 1);
         bothChoices("14 has fewer hours and is near just so", office, 10, 2);
         office.setSlack(3);
         bothChoices("14 is one too much", office, 10, 4);
-        Shedwheel even = officeOf(6, 6, 6, 12);
+        Shedwheel even = Offices.of(6, 6, 6, 12);
         bothChoices("least as a number", even, 12, 3);
-        giveHours(even, 0, 1);
+        Offices.giveHours(even, 0, 1);
         bothChoices("hours first", even, 12, 6);
-        giveHours(even, 1, 1);
+        Offices.giveHours(even, 1, 1);
         bothChoices("one alone with fewer hours", even, 12, 8);
     }
 
     private static void promise20ChoiceNoneNear() {
-        Shedwheel office = officeOf(30, 20, 20, 50);
-        giveHours(office, 1, 2);
+        Shedwheel office = Offices.of(30, 20, 20, 50);
+        Offices.giveHours(office, 1, 2);
         bothChoices("least taken, then least hours", office, 19, 4);
         bothChoices("least taken with more hours", office, 35, 6);
         bothChoices("near with hours", office, 40, 6);
         bothChoices("one or a pair, least hours", office, 45, 5);
-        giveHours(office, 3, 1);
-        giveHours(office, 2, 2);
+        Offices.giveHours(office, 3, 1);
+        Offices.giveHours(office, 2, 2);
         bothChoices("fewer hours", office, 45, 8);
-        giveHours(office, 3, 1);
+        Offices.giveHours(office, 3, 1);
         bothChoices("as many hours, least as a number", office, 45, 3);
     }
 
     private static void promise20ChoiceEdges() {
-        Shedwheel office = officeOf(5, 9, 14);
+        Shedwheel office = Offices.of(5, 9, 14);
         bothChoices("the least shortfall", office, 1, 1);
         bothChoices("all of them", office, 28, 7);
         bothChoices("all take less", office, 29, 0);
@@ -530,7 +513,7 @@ public final class PromisesTest {
         office.pass(10);
         office.restore(1);
         bothChoices("with its cold part", office, 18, 2);
-        Shedwheel twelve = officeOf(1, 2, 4, 8, 16, 32, 64, 128, 256, 512, 999, 999);
+        Shedwheel twelve = Offices.of(1, 2, 4, 8, 16, 32, 64, 128, 256, 512, 999, 999);
         DUE.same("20 of twelve, exactly", twelve.choice(731), 731);
         DUE.same("20 of twelve, all", twelve.choice(3021), 4095);
         DUE.same("20 of twelve, too much", twelve.choice(3022), 0);
@@ -538,7 +521,7 @@ public final class PromisesTest {
     }
 
     private static void promise21ChoiceByListing() {
-        Shedwheel office = officeOf(1, 2, 4, 8, 16, 32, 64, 128);
+        Shedwheel office = Offices.of(1, 2, 4, 8, 16, 32, 64, 128);
         DUE.same("21 of eight", office.choiceByListing(77), 77);
         DUE.refused(office, "21 choiceByListing(0)", ARGUMENT, () -> office.choiceByListing(0));
         DUE.refused(office, "21 choiceByListing(20001)", ARGUMENT, () -> office.choiceByListing(20001));
@@ -557,11 +540,11 @@ public final class PromisesTest {
     }
 
     private static void promise22MostCut() {
-        Shedwheel office = officeOf(5, 6, 7);
+        Shedwheel office = Offices.of(5, 6, 7);
         DUE.same("22 all even", office.mostCut(), 0);
-        giveHours(office, 1, 2);
+        Offices.giveHours(office, 1, 2);
         DUE.same("22 the greatest hours", office.mostCut(), 1);
-        giveHours(office, 2, 2);
+        Offices.giveHours(office, 2, 2);
         DUE.same("22 of several the lowest number", office.mostCut(), 1);
         office.setCritical(1, true);
         DUE.same("22 not a critical one", office.mostCut(), 2);
@@ -573,7 +556,7 @@ public final class PromisesTest {
     }
 
     private static void promise23LoadRestored() {
-        Shedwheel office = officeOf(15, 25, 35);
+        Shedwheel office = Offices.of(15, 25, 35);
         office.setCritical(2, true);
         DUE.same("23 none is cut", office.loadRestored(), 75);
         office.cut(0);
@@ -592,7 +575,7 @@ public final class PromisesTest {
 
     /** The promises hold for 512 calls: here with as many hours as these can hold. */
     private static void promisesAtTheFullLength() {
-        Shedwheel office = officeOf(1);
+        Shedwheel office = Offices.of(1);
         office.cut(0);
         for (int call = 2; call < 508; call++) {
             office.pass(100);
