@@ -23,6 +23,7 @@ public final class EmptyAndFullTest {
         oneFeeder();
         toldLater();
         hoursBeyondShort();
+        eachForItself();
         DUE.end();
     }
 
@@ -278,5 +279,27 @@ public final class EmptyAndFullTest {
         same("20 40000 hours", office, Calls.CHOICE, 25, 9);
         office.setCritical(3, true);
         same("20 80000 hours, not 120000", office, Calls.CHOICE, 20, 3);
+    }
+
+    /** Two offices used in turns answer as each would alone, and so does a third one that is made meanwhile. */
+    private static void eachForItself() {
+        Shedwheel one = Offices.mixed();
+        Shedwheel other = Offices.great(9);
+        same("7 the other is cut", other, Calls.RELIEVE, 1998, 1998);
+        same("20 the one, with its slack", one, Calls.CHOICE, 83, 16);
+        same("8 the other turns", other, Calls.ROTATE, 0, 2);
+        same("6 the other's hour", other, Calls.PASS, 10, 10);
+        same("12 the one's hour", one, Calls.HOUR, 0, 8);
+        same("16 the one's cold part", one, Calls.COLD, 0, 20);
+        same("5 the other's slack", other, Calls.SET_SLACK, 3, 0);
+        Shedwheel third = Offices.of(10);
+        same("5 the third one's slack", third, Calls.SET_SLACK, 2, 0);
+        same("9 the other's stages", other, Calls.TRIP, 1, 7 * 999);
+        same("9 the one's stages", one, Calls.TRIP, 3, 150);
+        same("21 the third one's feeder", third, Calls.CHOICE_BY_LISTING, 8, 1);
+        same("23 the other, restored", other, Calls.LOAD_RESTORED, 0, 7 * 999 + 2 * 1998);
+        same("23 the one, restored", one, Calls.LOAD_RESTORED, 0, 50 + 90 + 70 + 120 + 90);
+        same("5 the one's slack", one, Calls.SET_SLACK, 0, 7);
+        same("5 the other's slack", other, Calls.SET_SLACK, 0, 3);
     }
 }

